@@ -771,6 +771,16 @@ public final class PromisesTest {
         due("count(0)", m.count(0), 1);
         due("room(0)", m.room(0), 60);
 
+        fresh("13 the least number holds on from IMMORTAL", 60, 4);
+        m.begin(0, PLAIN);
+        m.turn(0, 1);
+        due("in IMMORTAL", m.make(0, 1), 0);
+        m.leave(0);
+        due("in the HEAP", m.make(0, 0), 1);
+        due("put(0, 0, 0, 1)", m.put(0, 0, 0, 1), OK);
+        due("count(3)", m.count(3), 1);
+        due("collect()", m.collect(), 0);
+
         fresh("13 the deepest chain", 60, 4);
         m.begin(0, PLAIN);
         for (int number = 0; number < 30; number++) {
