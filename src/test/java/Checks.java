@@ -18,7 +18,7 @@ final class Checks {
     void same(String what, String got, String want) {
         made++;
         if (!got.equals(want)) {
-            tell(what + " is\n  " + got + ", due is\n  " + want);
+            tell(what + " is \"" + got + "\", due is \"" + want + "\"");
         }
     }
 
