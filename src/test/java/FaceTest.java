@@ -2,11 +2,16 @@ import java.lang.reflect.Constructor;
 import java.lang.reflect.Field;
 import java.lang.reflect.Method;
 import java.lang.reflect.Modifier;
+import java.nio.file.Files;
+import java.nio.file.Path;
 import java.util.Arrays;
+import java.util.List;
 import java.util.TreeSet;
 
 /** The class shows the document's face and nothing else. */
 public final class FaceTest {
+    private static final Path DOCUMENT = Path.of("../shared/DOC.md");
+    private static final Path PROGRAM = Path.of("src/main/java/ScopedMemory.java");
     private static final String[] METHODS = {
         "scope(int)", "begin(int,boolean)", "enter(int,int)", "turn(int,int)", "leave(int)", "make(int,int)",
         "put(int,int,int,int)", "get(int,int,int)", "hang(int,int,int)", "portal(int,int)", "assign(int,int,int)",
@@ -25,6 +30,7 @@ public final class FaceTest {
         checks.same("constants", shownConstants(checks).toString(), sorted(CONSTANTS));
         checkConstructors(checks);
         checkClassesInside(checks);
+        checkWords(checks);
         checks.end();
     }
 
@@ -77,6 +83,20 @@ public final class FaceTest {
             int kind = inside.getModifiers();
             checks.holds(inside + " is static and not shown",
                 Modifier.isStatic(kind) && !Modifier.isPublic(kind) && !Modifier.isProtected(kind));
+        }
+    }
+
+    /** Each line of the document's face stands in the program, with the names of the parameters. */
+    private static void checkWords(Checks checks) throws Exception {
+        if (!Files.exists(DOCUMENT)) {
+            System.out.println("there is no " + DOCUMENT + " to hold the face against");
+            return;
+        }
+        List<String> program = Files.readAllLines(PROGRAM);
+        String face = Files.readString(DOCUMENT).split("```java\n|```")[1];
+        for (String line : face.split("\n")) {
+            String due = line.endsWith(");") ? line.replace(");", ") {") : line;
+            checks.holds("that the program says \"" + due.trim() + "\"", program.contains(due));
         }
     }
 
