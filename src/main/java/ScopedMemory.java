@@ -332,7 +332,7 @@ public final class ScopedMemory {
     private boolean liesIn(int area, int scope) {
         int at = area;
         // A scope's parent is never one that lies in it, so the way up is no longer than all areas.
-        for (int i = 0; i < AREA_LIMIT && at >= FIRST_SCOPE; i++) {
+        for (int i = 0; i < AREA_LIMIT && isScope(at); i++) {
             if (at == scope) {
                 return true;
             }
@@ -411,7 +411,11 @@ public final class ScopedMemory {
     }
 
     private void keep(int object) {
-        if (object == NONE || cells[object].area != HEAP || cells[object].kept) {
+        if (!isObject(object) || cells[object].area != HEAP || cells[object].kept) {
+            return;
+        }
+        // Never so, as each OBJECT is found once; but an index is to be looked at before it is used.
+        if (foundCount >= OBJECT_LIMIT) {
             return;
         }
         cells[object].kept = true;
